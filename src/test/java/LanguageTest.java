@@ -1,0 +1,134 @@
+import java.io.IOException;
+import java.lang.reflect.Constructor;
+import java.lang.reflect.Field;
+import java.lang.reflect.Method;
+import java.lang.reflect.Modifier;
+import java.nio.file.Files;
+import java.nio.file.Path;
+import java.util.ArrayList;
+import java.util.Arrays;
+import java.util.List;
+import java.util.TreeSet;
+
+/**
+ * The face of the document, and those rules of ../shared/LANGUAGE.md that a look at the text and at
+ * the class can find. It is run from the root of the project.
+ */
+public final class LanguageTest {
+    private static final String[] FACE = {
+        "int alike(int,int) IndexOutOfBoundsException",
+        "int append(int) IllegalArgumentException IllegalStateException",
+        "int bestFold()",
+        "int cast(int,int,int) IndexOutOfBoundsException",
+        "int clearBuffer()",
+        "int count(int) IllegalArgumentException",
+        "int dieOf(int,int,int,int) IndexOutOfBoundsException IllegalArgumentException",
+        "int firstError()",
+        "int foil(int,int,int,int,int) IndexOutOfBoundsException IllegalArgumentException",
+        "int fold(int) IndexOutOfBoundsException",
+        "int gentlest(int,int) IndexOutOfBoundsException IllegalArgumentException",
+        "int goBack(int) IllegalArgumentException IllegalStateException",
+        "int ifFolded(int) IndexOutOfBoundsException",
+        "int ifPressed(int,int,int,int) IndexOutOfBoundsException IllegalArgumentException",
+        "int keep(int) IllegalArgumentException",
+        "int load(int) IndexOutOfBoundsException IllegalArgumentException",
+        "int needed(int,int,int,int) IndexOutOfBoundsException IllegalArgumentException",
+        "int pin()",
+        "int place(int,int,int) IndexOutOfBoundsException IllegalArgumentException",
+        "int point(int,int,int,int) IndexOutOfBoundsException IllegalArgumentException",
+        "int press(int,int,int,int) IndexOutOfBoundsException IllegalArgumentException",
+        "int set(int,int) IndexOutOfBoundsException IllegalArgumentException",
+        "int setting(int) IndexOutOfBoundsException",
+        "int sheet()",
+        "int undo() IllegalStateException",
+        "double wholeShare()",
+        "long digest()",
+    };
+    private static final String[] FORBIDDEN = {
+        "->", "::", "\\btry\\b", "\\bcatch\\b", "\\bfinally\\b", "\\bsynchronized\\b", "\\bassert\\b",
+        "\\bpackage\\b", "\\bDouble\\.", "\\bFloat\\.", "\\bObject\\b", "Exact\\(", "System\\.(?!arraycopy\\()",
+        "\\bArrays\\.(?!fill\\(|copyOf\\(|copyOfRange\\()", "\\bequals\\(", "\\bhashCode\\(", "\\btoString\\(",
+        "\\bstatic\\s*\\{", "\\bvar\\b", "\\+ \"", "\" \\+", "[^\\x00-\\x7f]",
+    };
+
+    public static void main(String[] args) throws IOException {
+        face();
+        nothingElseIsVisible();
+        text();
+        Check.end();
+    }
+
+    private static void face() {
+        TreeSet<String> got = new TreeSet<>();
+        for (Method method : EmbossPress.class.getDeclaredMethods()) {
+            if (Modifier.isPublic(method.getModifiers())) {
+                got.add(faceOf(method));
+            }
+        }
+        Check.dueOutcome("the face", got.toString(), new TreeSet<>(Arrays.asList(FACE)).toString());
+        Constructor<?>[] constructors = EmbossPress.class.getDeclaredConstructors();
+        Check.due("constructors", constructors.length, 1);
+        Check.due("its arguments", constructors[0].getParameterCount(), 0);
+        Check.due("it is public", constructors[0].getModifiers(), Modifier.PUBLIC);
+        Check.due("the class", EmbossPress.class.getModifiers(), Modifier.PUBLIC | Modifier.FINAL);
+    }
+
+    private static String faceOf(Method method) {
+        List<String> types = new ArrayList<>();
+        for (Class<?> type : method.getParameterTypes()) {
+            types.add(type.getSimpleName());
+        }
+        StringBuilder face = new StringBuilder();
+        face.append(method.getReturnType()).append(' ').append(method.getName());
+        face.append('(').append(String.join(",", types)).append(')');
+        for (Class<?> thrown : method.getExceptionTypes()) {
+            face.append(' ').append(thrown.getSimpleName());
+        }
+        return face.toString();
+    }
+
+    private static void nothingElseIsVisible() {
+        TreeSet<String> names = new TreeSet<>();
+        for (Method method : EmbossPress.class.getDeclaredMethods()) {
+            boolean isPublic = Modifier.isPublic(method.getModifiers());
+            Check.due(method + " is public or private",
+                    isPublic || Modifier.isPrivate(method.getModifiers()) ? 1 : 0, 1);
+            if (isPublic) {
+                names.add(method.getName());
+            }
+        }
+        for (Field field : EmbossPress.class.getDeclaredFields()) {
+            boolean isNone = field.getName().equals("NONE") && Modifier.isPublic(field.getModifiers());
+            Check.due(field + " is private", isNone || Modifier.isPrivate(field.getModifiers()) ? 1 : 0, 1);
+            Check.due(field + " is final if it is static",
+                    Modifier.isStatic(field.getModifiers()) && !Modifier.isFinal(field.getModifiers()) ? 1 : 0, 0);
+        }
+        for (Class<?> inside : EmbossPress.class.getDeclaredClasses()) {
+            Check.due(inside + " is static", Modifier.isStatic(inside.getModifiers()) ? 1 : 0, 1);
+            Check.due(inside + " is not public", Modifier.isPublic(inside.getModifiers()) ? 1 : 0, 0);
+            for (Method method : inside.getDeclaredMethods()) {
+                Check.due(method + " has no name of the face", names.contains(method.getName()) ? 1 : 0, 0);
+            }
+        }
+    }
+
+    private static void text() throws IOException {
+        String[] lines = Files.readString(Path.of("src/main/java/EmbossPress.java")).split("\n");
+        boolean inComment = false;
+        for (int i = 0; i < lines.length; i++) {
+            String line = lines[i].strip();
+            boolean comment = inComment || line.startsWith("//") || line.startsWith("/*");
+            inComment = (inComment || line.startsWith("/*")) && !line.endsWith("*/");
+            if (comment) {
+                continue;
+            }
+            for (String pattern : FORBIDDEN) {
+                boolean found = java.util.regex.Pattern.compile(pattern).matcher(line).find();
+                Check.due("line " + (i + 1) + " has " + pattern, found ? 1 : 0, 0);
+            }
+            if (line.startsWith("import")) {
+                Check.dueOutcome("import", line, "import java.util.Arrays;");
+            }
+        }
+    }
+}
