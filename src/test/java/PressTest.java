@@ -16,6 +16,9 @@ public final class PressTest {
         gentlestAmongRefusals();
         neededFindsStrength();
         neededAtTheLimit();
+        neededBesideCracks();
+        pressAtEveryPlace();
+        harmEverywhere();
         Check.end();
     }
 
@@ -379,5 +382,74 @@ public final class PressTest {
         Check.due("with that it cracks nothing", q.ifPressed(0, 0, 0, 0), 100);
         q.set(0, 95);
         Check.due("with less it cracks", q.ifPressed(0, 0, 0, 0) > 100 ? 1 : 0, 1);
+    }
+
+    private static void neededBesideCracks() {
+        EmbossPress p = new EmbossPress();
+        p.set(0, 3);
+        p.set(1, 0);
+        Check.due("a point of 1", Check.pressPoint(p, 5, 5, 1), 101);
+        p.set(1, 20);
+        Check.due("a strain of 1 beside a crack", p.needed(2, 5, 5, 0), 21);
+        // Paper that bears nothing: all that is strained cracks, and what is left has no strain.
+        p.set(0, 0);
+        Check.due("the ones beside it", p.press(2, 5, 5, 0), 104);
+        Check.due("no strain beside cracks", p.needed(2, 5, 5, 0), 0);
+        EmbossPress q = strong();
+        q.set(3, 1);
+        Check.pressPoint(q, 5, 5, 1);
+        Check.loadText(q, 0, "9");
+        Check.due("slip", q.count(2), 1);
+        Check.due("the corner, by the slip", q.needed(0, 10, 0, 0), 18);
+        Check.due("an edge, by the slip", q.needed(0, 0, 0, 0), 27);
+        Check.due("the corner, by the slip", q.needed(0, -1, 0, 0), 18);
+        Check.due("off the sheet, by the slip", q.needed(0, 11, 0, 0), EmbossPress.NONE);
+        Check.due("off the sheet, by the slip", q.ifPressed(0, 11, 0, 0), 1);
+        Check.due("the corner, by the slip", q.ifPressed(0, -1, 11, 0), 100);
+    }
+
+    private static int neighbours(int x, int y) {
+        return (x > 0 ? 1 : 0) + (x < 11 ? 1 : 0) + (y > 0 ? 1 : 0) + (y < 11 ? 1 : 0);
+    }
+
+    /** One point of 9 at each place: it cracks, and weakens just its neighbours. */
+    private static void pressAtEveryPlace() {
+        for (int y = 0; y < 12; y++) {
+            for (int x = 0; x < 12; x++) {
+                String at = " at " + x + " " + y;
+                EmbossPress p = new EmbossPress();
+                p.foil(1, 0, 0, 11, 11);
+                Check.due("press" + at, Check.pressPoint(p, x, y, 9), 101);
+                Check.due("greatest depth" + at, p.count(5), 9);
+                Check.due("strain by places" + at, p.count(6), 18 * neighbours(x, y));
+                Check.due("strain by pairs" + at, p.count(7), 18 * neighbours(x, y));
+                Check.due("places with foil" + at, p.count(8), 1);
+                for (int i = 0; i < 144; i++) {
+                    int apart = Math.abs(i % 12 - x) + Math.abs(i / 12 - y);
+                    Check.due("bears" + at, p.place(i % 12, i / 12, 4), apart == 1 ? 9 : 12);
+                    Check.due("strain" + at, p.place(i % 12, i / 12, 3),
+                            apart == 0 ? 9 * neighbours(x, y) : apart == 1 ? 9 : 0);
+                }
+                p.undo();
+                p.set(1, 4);
+                Check.due("weakened ones crack" + at, p.press(2, x, y, 0), 101 + neighbours(x, y));
+            }
+        }
+    }
+
+    private static void harmEverywhere() {
+        EmbossPress p = strong();
+        Check.loadText(p, 0, "5");
+        for (int i = 0; i < 144; i++) {
+            if ((i % 12 + i / 12) % 2 == 0) {
+                p.press(0, i % 12, i / 12, 0);
+            }
+        }
+        p.set(0, 0);
+        Check.loadText(p, 0, "1");
+        Check.due("all places crack", p.ifPressed(0, 5, 5, 0), 244);
+        Check.due("still the first place is the gentlest", p.gentlest(0, 0), 0);
+        Check.due("all places crack", p.press(0, 5, 5, 0), 244);
+        Check.due("no place is left to crack", p.ifPressed(0, 5, 5, 0), 100);
     }
 }
