@@ -50,7 +50,7 @@ public final class EmbossPress {
     private static final int LOOK_Y = 4;
     private static final long EXPONENT_OF_ONE = 1023L;
     private static final int FRACTION_BITS = 52;
-    private static final double FRACTION_SCALE = 4503599627370496.0;
+    private static final long FRACTION_SCALE = 1L << FRACTION_BITS;
 
     private final State now;
     private final State[] slots;
@@ -654,7 +654,7 @@ public final class EmbossPress {
             scaled = scaled * 2.0;
             exponent--;
         }
-        return (exponent << FRACTION_BITS) + (long) ((scaled - 1.0) * FRACTION_SCALE);
+        return (exponent << FRACTION_BITS) + (long) ((scaled - 1.0) * (double) FRACTION_SCALE);
     }
 
     /** The places of a sheet, row by row. */

@@ -51,6 +51,9 @@ public final class LanguageTest {
         "\\bstatic\\s*\\{", "\\bvar\\b", "\\+ \"", "\" \\+", "[^\\x00-\\x7f]",
     };
 
+    private static final List<String> STATIC_TYPES =
+            List.of("int", "long", "boolean", "char", "String", "int[]", "long[]", "char[]", "byte[]");
+
     public static void main(String[] args) throws IOException {
         face();
         nothingElseIsVisible();
@@ -97,19 +100,35 @@ public final class LanguageTest {
                 names.add(method.getName());
             }
         }
+        for (Method method : EmbossPress.class.getDeclaredMethods()) {
+            boolean hidden = !Modifier.isPublic(method.getModifiers());
+            Check.due(method + " is private and has a name of the face",
+                    hidden && names.contains(method.getName()) ? 1 : 0, 0);
+        }
         for (Field field : EmbossPress.class.getDeclaredFields()) {
             boolean isNone = field.getName().equals("NONE") && Modifier.isPublic(field.getModifiers());
             Check.due(field + " is private", isNone || Modifier.isPrivate(field.getModifiers()) ? 1 : 0, 1);
-            Check.due(field + " is final if it is static",
-                    Modifier.isStatic(field.getModifiers()) && !Modifier.isFinal(field.getModifiers()) ? 1 : 0, 0);
+            staticField(field);
         }
         for (Class<?> inside : EmbossPress.class.getDeclaredClasses()) {
+            for (Field field : inside.getDeclaredFields()) {
+                staticField(field);
+            }
             Check.due(inside + " is static", Modifier.isStatic(inside.getModifiers()) ? 1 : 0, 1);
             Check.due(inside + " is not public", Modifier.isPublic(inside.getModifiers()) ? 1 : 0, 0);
             for (Method method : inside.getDeclaredMethods()) {
                 Check.due(method + " has no name of the face", names.contains(method.getName()) ? 1 : 0, 0);
             }
         }
+    }
+
+    private static void staticField(Field field) {
+        if (!Modifier.isStatic(field.getModifiers())) {
+            return;
+        }
+        Check.due(field + " is final", Modifier.isFinal(field.getModifiers()) ? 1 : 0, 1);
+        String type = field.getType().getSimpleName();
+        Check.due(field + " is of a type that static fields may have", STATIC_TYPES.contains(type) ? 1 : 0, 1);
     }
 
     private static void text() throws IOException {

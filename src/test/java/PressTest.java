@@ -189,7 +189,7 @@ public final class PressTest {
             Check.due("slip behind press " + i, p.count(2), slips[i]);
             int slipBefore = i == 0 ? 0 : slips[i - 1];
             Check.due("pressed where it had slipped", p.place(slipBefore, 1 + i, 0), 1);
-            Check.due("pressed once", p.count(6), 2 * strainOfPoints(p));
+            Check.due("pressed once", p.place(slipBefore, 1 + i, 6), 1);
         }
         Check.due("on the sheet by the slip", Check.pressPoint(p, -3, 0, 1), 100);
         Check.due("off the sheet by the slip", Check.pressPoint(p, 9, 0, 1), 1);
@@ -204,19 +204,6 @@ public final class PressTest {
         q.set(3, 3);
         Check.pressPoint(q, 0, 0, 1);
         Check.due("the third press slips", q.count(2), 1);
-    }
-
-    /** All pairs of neighbours, told from outside. */
-    private static int strainOfPoints(EmbossPress p) {
-        int sum = 0;
-        for (int y = 0; y < 12; y++) {
-            for (int x = 0; x < 12; x++) {
-                int depth = p.place(x, y, 0);
-                sum += x < 11 ? Math.abs(depth - p.place(x + 1, y, 0)) : 0;
-                sum += y < 11 ? Math.abs(depth - p.place(x, y + 1, 0)) : 0;
-            }
-        }
-        return sum;
     }
 
     private static void ifPressedTellsAndChangesNothing() {

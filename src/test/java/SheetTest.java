@@ -24,7 +24,7 @@ public final class SheetTest {
             Check.due("new count " + what, p.count(what), what == 11 ? 1 : 0);
         }
         for (int what = 0; what < 7; what++) {
-            Check.dueOutcome("new places " + what, Check.places(p, what),
+            Check.dueOutcome("new places " + what, Check.places(new EmbossPress(), what),
                     what == 4 ? "12 ".repeat(144) : NO_PLACES);
         }
         for (int die = 0; die < 3; die++) {
@@ -60,7 +60,9 @@ public final class SheetTest {
         Check.due("slip before", p.count(2), 2);
         Check.due("sheet", p.sheet(), 2);
         for (int what = 0; what < 7; what++) {
-            Check.dueOutcome("places " + what + " of the new sheet", Check.places(p, what),
+            EmbossPress again = used();
+            again.sheet();
+            Check.dueOutcome("places " + what + " of the new sheet", Check.places(again, what),
                     what == 4 ? "12 ".repeat(144) : NO_PLACES);
         }
         int[] counts = {2, 0, 0, 0, 0, 0, 0, 0, 0, 0, 2, 2, 0, 6};

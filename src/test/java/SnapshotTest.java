@@ -12,36 +12,10 @@ public final class SnapshotTest {
         Check.end();
     }
 
-    /** Everything that a snapshot holds is other than at first. */
-    private static EmbossPress used() {
-        EmbossPress p = new EmbossPress();
-        p.set(1, 4);
-        p.set(3, 2);
-        p.sheet();
-        Check.pressPoint(p, 4, 4, 9);
-        p.foil(3, 1, 1, 8, 8);
-        Check.pressPoint(p, 6, 6, 8);
-        p.fold(5);
-        p.press(1, 0, 0, 0);
-        p.foil(7, 2, 3, 9, 10);
-        p.point(0, 1, 2, 5);
-        return p;
-    }
-
-    private static void spoil(EmbossPress p) {
-        p.sheet();
-        p.set(0, 50);
-        p.set(1, 0);
-        p.set(2, 5);
-        p.set(3, 1);
-        p.foil(1, 0, 0, 11, 11);
-        Check.pressPoint(p, 9, 9, 4);
-        p.press(1, 0, 0, 0);
-        p.point(0, 1, 2, 1);
-        p.fold(4);
-    }
-
-    /** All answers but those that tell of the saved states, the slots and the buffer. */
+    /**
+     * Answers but those that tell of the saved states, the slots and the buffer; of the places those
+     * where something happens, as an object is used for 512 calls only.
+     */
     private static String look(EmbossPress p) {
         StringBuilder text = new StringBuilder();
         for (int what = 0; what < 13; what++) {
@@ -53,48 +27,50 @@ public final class SnapshotTest {
         for (int die = 0; die < 3; die++) {
             text.append(Check.dieText(p, die, 0)).append(' ');
         }
-        for (int what = 0; what < 7; what++) {
-            text.append(Check.places(p, what));
+        for (int i = 0; i < 12 * 7; i++) {
+            text.append(p.place(i / 7, i / 7, i % 7)).append(' ');
         }
         return text.toString();
     }
 
     private static void keepAndGoBack() {
-        EmbossPress p = used();
-        String before = look(p);
+        EmbossPress p = Check.used();
         int saved = p.count(13);
-        Check.due("keep", p.keep(0), 2);
+        Check.due("keep", p.keep(0), 3);
         Check.due("keep saves nothing", p.count(13), saved);
-        spoil(p);
-        Check.dueOutcome("spoilt", look(p).equals(before) ? "same" : "other", "other");
-        Check.due("goBack", p.goBack(0), 2);
-        Check.dueOutcome("behind goBack", look(p), before);
-        spoil(p);
-        Check.due("the snapshot stays", p.goBack(0), 2);
-        Check.dueOutcome("behind goBack again", look(p), before);
+        // As many states are saved each time, so that the digest tells whether all is back.
+        long before = p.digest();
+        Check.spoil(p);
+        Check.dueOutcome("spoilt", p.digest() == before ? "same" : "other", "other");
+        Check.due("goBack", p.goBack(0), 3);
+        Check.due("behind goBack", p.digest(), before);
+        Check.spoil(p);
+        Check.due("the snapshot stays", p.goBack(0), 3);
+        Check.due("behind goBack again", p.digest(), before);
     }
 
     private static void slotsAreTheirOwn() {
-        EmbossPress p = used();
-        String first = look(p);
+        EmbossPress p = Check.used();
+        p.keep(0);
         p.keep(1);
-        spoil(p);
-        String second = look(p);
-        Check.due("keep", p.keep(0), 3);
-        Check.due("goBack to 1", p.goBack(1), 2);
-        Check.dueOutcome("slot 1", look(p), first);
-        Check.due("goBack to 0", p.goBack(0), 3);
-        Check.dueOutcome("slot 0", look(p), second);
-        Check.due("keep in place of the first one", p.keep(1), 3);
+        long first = p.digest();
+        Check.spoil(p);
+        long second = p.digest();
+        Check.due("keep", p.keep(0), 4);
+        Check.due("goBack to 1", p.goBack(1), 3);
+        Check.due("slot 1", p.digest(), first);
+        Check.due("goBack to 0", p.goBack(0), 4);
+        Check.due("slot 0", p.digest(), second);
+        Check.due("keep in place of the first one", p.keep(1), 4);
         Check.pressPoint(p, 0, 0, 1);
         p.goBack(1);
-        Check.dueOutcome("slot 1 anew", look(p), second);
+        Check.due("slot 1 anew", p.digest(), second);
     }
 
     private static void goBackIsUndone() {
-        EmbossPress p = used();
+        EmbossPress p = Check.used();
         p.keep(0);
-        spoil(p);
+        Check.spoil(p);
         String spoilt = look(p);
         p.goBack(0);
         Check.due("goBack is saved", p.undo(), 5);
@@ -113,7 +89,7 @@ public final class SnapshotTest {
     }
 
     private static void undoRestoresAll() {
-        EmbossPress p = used();
+        EmbossPress p = Check.used();
         String before = look(p);
         p.goBack(keepIn(p, 1));
         p.sheet();

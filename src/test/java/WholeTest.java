@@ -40,85 +40,76 @@ public final class WholeTest {
         p.fold(1);
     }
 
-    /** The hash as the document tells it, by the calls of the face alone. */
-    private static long hashOf(EmbossPress p, int slotsTaken, String text) {
-        long hash = 3319;
-        for (int what = 0; what <= 13; what++) {
-            hash = 31 * hash + p.count(what);
+    /** One object after another, each with a step more behind it. */
+    private static EmbossPress inState(int steps) {
+        EmbossPress p = new EmbossPress();
+        for (int step = 1; step <= steps; step++) {
+            takeStep(p, step);
         }
-        for (int i = 0; i < 4; i++) {
-            hash = 31 * hash + p.setting(i);
-        }
-        for (int die = 0; die < 3; die++) {
-            for (int point = 0; point < 25; point++) {
-                hash = 31 * hash + p.dieOf(die, point % 5, point / 5, 0);
+        return p;
+    }
+
+    private static void takeStep(EmbossPress p, int step) {
+        switch (step) {
+            case 1 -> {
+                Check.loadText(p, 0, "12345/.9/8.8");
+                Check.loadText(p, 1, "8.8../.9.../12345");
+                Check.loadText(p, 2, "1/2/3");
+            }
+            case 2 -> {
+                p.foil(5, 1, 2, 8, 9);
+                p.set(3, 1);
+            }
+            case 3 -> {
+                p.press(0, 2, 2, 0);
+                p.press(1, 5, 6, 3);
+                p.press(1, 9, 9, 3);
+            }
+            case 4 -> {
+                p.keep(1);
+                Check.type(p, "1~!");
+            }
+            case 5 -> {
+                p.keep(0);
+                p.fold(4);
+                p.sheet();
+            }
+            default -> {
+                p.undo();
+                p.undo();
+                p.clearBuffer();
             }
         }
-        for (int place = 0; place < 144; place++) {
-            for (int what = 0; what <= 6; what++) {
-                hash = 31 * hash + p.place(place % 12, place / 12, what);
-            }
-        }
-        for (int die = 0; die < 3; die++) {
-            hash = 31 * hash + p.ifPressed(die, 3, 4, 0);
-            hash = 31 * hash + p.gentlest(die, 0);
-            hash = 31 * hash + p.alike(die, 0);
-            hash = 31 * hash + p.needed(die, 3, 4, 0);
-        }
-        for (int row = 1; row <= 11; row++) {
-            hash = 31 * hash + p.ifFolded(row);
-        }
-        hash = 31 * hash + p.bestFold();
-        hash = 31 * hash + Double.doubleToLongBits(p.wholeShare());
-        hash = 31 * hash + (slotsTaken & 1);
-        hash = 31 * hash + (slotsTaken >> 1 & 1);
-        hash = 31 * hash + text.length();
-        for (int i = 0; i < text.length(); i++) {
-            hash = 31 * hash + text.charAt(i);
-        }
-        return hash;
     }
 
     private static void digestOfStates() {
+        int[] slots = {0, 0, 0, 0, 2, 3, 3};
+        String[] texts = {"", "", "", "", "1~!", "1~!", ""};
+        for (int steps = 0; steps < slots.length; steps++) {
+            int taken = steps;
+            Check.dueHash("state " + steps, () -> inState(taken), slots[steps], texts[steps]);
+        }
+    }
+
+    /** A point in a corner cracks three places, one more beside it two, and so on. */
+    private static EmbossPress pointByPoint(int presses) {
         EmbossPress p = new EmbossPress();
-        Check.due("digest of a new object", p.digest(), hashOf(p, 0, ""));
-        Check.loadText(p, 0, "12345/.9/8.8");
-        Check.loadText(p, 1, "8.8../.9.../12345");
-        Check.loadText(p, 2, "1/2/3");
-        Check.due("digest with dies", p.digest(), hashOf(p, 0, ""));
-        p.foil(5, 1, 2, 8, 9);
-        p.set(3, 1);
-        Check.due("digest with ready foil", p.digest(), hashOf(p, 0, ""));
-        p.press(0, 2, 2, 0);
-        p.press(1, 5, 6, 3);
-        p.press(1, 9, 9, 3);
-        Check.due("digest with cracks and a slip", p.digest(), hashOf(p, 0, ""));
-        p.keep(1);
-        Check.type(p, "1~!");
-        Check.due("digest with a slot and a text", p.digest(), hashOf(p, 2, "1~!"));
-        p.keep(0);
-        p.fold(4);
-        p.sheet();
-        Check.due("digest with both slots", p.digest(), hashOf(p, 3, "1~!"));
-        p.undo();
-        p.undo();
-        p.clearBuffer();
-        Check.due("digest behind undo", p.digest(), hashOf(p, 3, ""));
+        p.set(0, 0);
+        p.set(1, 0);
+        p.point(2, 0, 0, 1);
+        for (int i = 0; i < presses; i++) {
+            p.press(2, i % 12, i / 12, 0);
+        }
+        return p;
     }
 
     private static void digestOfEveryShare() {
-        EmbossPress p = new EmbossPress();
-        crackAll(p);
-        Check.due("no place is whole", p.count(4), 144);
-        Check.due("digest of share 0", p.digest(), hashOf(p, 0, ""));
-        p.sheet();
-        p.set(0, 0);
-        p.set(1, 0);
-        Check.loadText(p, 2, "1");
-        // A point in a corner cracks three places, one more beside it two, and so on.
-        for (int i = 0; i < 144; i++) {
-            p.press(2, i % 12, i / 12, 0);
-            Check.due("digest of share " + p.wholeShare(), p.digest(), hashOf(p, 0, ""));
+        EmbossPress all = new EmbossPress();
+        crackAll(all);
+        Check.due("no place is whole", all.count(4), 144);
+        for (int presses = 0; presses <= 144; presses++) {
+            int made = presses;
+            Check.dueHash(presses + " points", () -> pointByPoint(made), 0, "");
         }
     }
 
