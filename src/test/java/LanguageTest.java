@@ -5,8 +5,10 @@ import java.lang.reflect.Method;
 import java.lang.reflect.Modifier;
 import java.nio.file.Files;
 import java.nio.file.Path;
+import java.util.ArrayDeque;
 import java.util.ArrayList;
 import java.util.Arrays;
+import java.util.Deque;
 import java.util.List;
 import java.util.TreeSet;
 
@@ -57,7 +59,9 @@ public final class LanguageTest {
     public static void main(String[] args) throws IOException {
         face();
         nothingElseIsVisible();
+        sizes();
         text();
+        lengthsAndObjects();
         Check.end();
     }
 
@@ -131,8 +135,53 @@ public final class LanguageTest {
         Check.due(field + " is of a type that static fields may have", STATIC_TYPES.contains(type) ? 1 : 0, 1);
     }
 
+    /** Rule 11: parameters, classes in the file, fields beside the constants. */
+    private static void sizes() {
+        List<Class<?>> classes = new ArrayList<>(List.of(EmbossPress.class.getDeclaredClasses()));
+        classes.add(EmbossPress.class);
+        Check.due(classes.size() + " classes are twelve at most", classes.size() <= 12 ? 1 : 0, 1);
+        for (Class<?> one : classes) {
+            int fields = 0;
+            for (Field field : one.getDeclaredFields()) {
+                fields += Modifier.isStatic(field.getModifiers()) ? 0 : 1;
+            }
+            Check.due(one + " has twenty fields at most", fields <= 20 ? 1 : 0, 1);
+            for (Method method : one.getDeclaredMethods()) {
+                Check.due(method + " takes seven parameters at most", method.getParameterCount() <= 7 ? 1 : 0, 1);
+            }
+        }
+    }
+
+    /** Rule 11: methods are short. Rule 12: no call makes an object, but for what it throws. */
+    private static void lengthsAndObjects() throws IOException {
+        String[] lines = lines();
+        Deque<Integer> open = new ArrayDeque<>();
+        int constructor = -1;
+        for (int i = 0; i < lines.length; i++) {
+            String line = lines[i].strip();
+            constructor = line.equals("public EmbossPress() {") ? i : constructor;
+            boolean field = line.matches("(private )?final .*");
+            boolean makes = line.contains("new ") && !line.startsWith("throw new ");
+            Check.due("line " + (i + 1) + " makes an object in a call",
+                    makes && !field && !open.contains(constructor) ? 1 : 0, 0);
+            if (line.startsWith("}") && !open.isEmpty()) {
+                int start = open.pop();
+                boolean isClass = lines[start].contains(" class ");
+                Check.due("line " + (start + 1) + " begins a short method", isClass || i - start < 60 ? 1 : 0, 1);
+            }
+            if (line.endsWith("{")) {
+                open.push(i);
+            }
+        }
+        Check.due("the constructor was seen", constructor >= 0 && open.isEmpty() ? 1 : 0, 1);
+    }
+
+    private static String[] lines() throws IOException {
+        return Files.readString(Path.of("src/main/java/EmbossPress.java")).split("\n");
+    }
+
     private static void text() throws IOException {
-        String[] lines = Files.readString(Path.of("src/main/java/EmbossPress.java")).split("\n");
+        String[] lines = lines();
         boolean inComment = false;
         for (int i = 0; i < lines.length; i++) {
             String line = lines[i].strip();
